@@ -1,3 +1,5 @@
+import java.util.Arrays;
+
 /**
  * A machine for small programs that are judged before they run. The document is ../shared/DOC.md;
  * what its words leave open is said in README.md.
@@ -18,6 +20,7 @@ public final class JudgedCode {
   private static final int STACK_OCTETS = 512;
   private static final int CELLS = 64;
 
+  private static final long SIGN = 1L << 63;
   private static final long LOW_HALF = 0xFFFFFFFFL;
   private static final long CONTEXT_AT = 1L << 32;
   private static final long STACK_END = 1L << 33;
@@ -150,6 +153,9 @@ public final class JudgedCode {
     }
     if (kind == 0 && key != 4 || key < 1 || key > 8) {
       return REFUSED_RANGE;
+    }
+    if (memory.tableCount >= MOST_TABLES) {
+      return REFUSED_ROOM;
     }
     return memory.addTable(new Table(kind == 0, key, value, n));
   }
@@ -285,7 +291,7 @@ public final class JudgedCode {
   /** What the machine computes; the judge uses it too, so that both agree on single numbers. */
   private static final class Numbers {
     static boolean below(long a, long b) {
-      return a + Long.MIN_VALUE < b + Long.MIN_VALUE;
+      return (a ^ SIGN) < (b ^ SIGN);
     }
 
     static long quotient(long a, long b) {
@@ -293,17 +299,15 @@ public final class JudgedCode {
         return 0;
       }
       if (b < 0) {
-        return below(a, b) ? 0 : 1;
+        return a >= 0 || a < b ? 0 : 1;
       }
       if (a >= 0) {
         return a / b;
       }
+      // Half of a fits a division with sign; what is left over then is below 2 b.
       long q = ((a >>> 1) / b) << 1;
-      return below(a - q * b, b) ? q : q + 1;
-    }
-
-    static long rest(long a, long b) {
-      return b == 0 ? a : a - quotient(a, b) * b;
+      long left = a - q * b;
+      return left >= 0 && left < b ? q : q + 1;
     }
 
     static long signedQuotient(long a, long b) {
@@ -313,31 +317,34 @@ public final class JudgedCode {
       return b == -1 ? -a : a / b;
     }
 
-    static long signedRest(long a, long b) {
-      if (b == 0) {
-        return a;
-      }
-      return b == -1 ? 0 : a % b;
-    }
-
     /** The lowest bits of x, the highest of them as sign. */
     static long withSign(long x, int bits) {
       int up = 64 - bits;
-      return (x << up) >> up;
+      return x << up >> up;
+    }
+
+    private static long half(long x, boolean signed) {
+      return signed ? (int) x : x & LOW_HALF;
     }
 
     static long make(int code, boolean wide, int offset, long dst, long x) {
-      if (wide) {
-        return makeWide(code, offset, dst, x);
+      boolean divides = code == DIVIDE || code == REST;
+      boolean signed = code == SIGNED_RIGHT || divides && offset == 1;
+      long a = wide ? dst : half(dst, signed);
+      long b = wide ? x : half(x, signed);
+      long made;
+      if (divides) {
+        long q = signed ? signedQuotient(a, b) : quotient(a, b);
+        made = code == DIVIDE ? q : a - q * b;
+      } else if (code == MOVE && offset != 0) {
+        made = withSign(b, offset);
+      } else {
+        made = makeOther(code, a, b, wide ? 63 : 31);
       }
-      boolean signed = code == SIGNED_RIGHT || (code == DIVIDE || code == REST) && offset == 1;
-      long a = signed ? withSign(dst, 32) : dst & LOW_HALF;
-      long b = signed ? withSign(x, 32) : x & LOW_HALF;
-      boolean shift = code == LEFT || code == RIGHT || code == SIGNED_RIGHT;
-      return makeWide(code, offset, a, shift ? b & 31 : b) & LOW_HALF;
+      return wide ? made : made & LOW_HALF;
     }
 
-    private static long makeWide(int code, int offset, long a, long x) {
+    private static long makeOther(int code, long a, long x, int shiftBits) {
       switch (code) {
         case ADD:
           return a + x;
@@ -345,10 +352,6 @@ public final class JudgedCode {
           return a - x;
         case MULTIPLY:
           return a * x;
-        case DIVIDE:
-          return offset == 1 ? signedQuotient(a, x) : quotient(a, x);
-        case REST:
-          return offset == 1 ? signedRest(a, x) : rest(a, x);
         case OR:
           return a | x;
         case AND:
@@ -356,15 +359,15 @@ public final class JudgedCode {
         case XOR:
           return a ^ x;
         case LEFT:
-          return a << (x & 63);
+          return a << (x & shiftBits);
         case RIGHT:
-          return a >>> (x & 63);
+          return a >>> (x & shiftBits);
         case SIGNED_RIGHT:
-          return a >> (x & 63);
+          return a >> (x & shiftBits);
         case NEGATE:
           return -a;
         default:
-          return offset == 0 ? x : withSign(x, offset);
+          return x;
       }
     }
 
@@ -468,9 +471,17 @@ public final class JudgedCode {
       }
     }
 
-    /** How many slots a jump goes on from the one behind it: a call of sort 6, code 0, uses IMM. */
+    /** How many slots a jump goes on from the one behind it. */
     int distance(int i) {
       return code(i) == ALWAYS && !isWide(i) ? imm[i] : offset[i];
+    }
+
+    boolean isPlainPut(int i) {
+      return (op[i] & ~WIDTH_BITS) == OP_PUT;
+    }
+
+    boolean isSignedLoad(int i) {
+      return (op[i] & ~WIDTH_BITS) == OP_SIGNED_LOAD;
     }
 
     boolean isBad(int i) {
@@ -508,16 +519,16 @@ public final class JudgedCode {
     }
 
     private boolean isBadLoad(int i) {
-      int plain = op[i] & ~WIDTH_BITS;
-      boolean signed = plain == OP_SIGNED_LOAD && width(i) != 8;
-      return plain != OP_LOAD && !signed || imm[i] != 0 || dst[i] >= REGISTERS - 1;
+      boolean plain = (op[i] & ~WIDTH_BITS) == OP_LOAD;
+      boolean signed = isSignedLoad(i) && width(i) != 8;
+      return !plain && !signed || imm[i] != 0 || dst[i] >= REGISTERS - 1;
     }
 
     private boolean isBadPut(int i) {
       if (op[i] == OP_CHANGE_FOUR || op[i] == OP_CHANGE_EIGHT) {
         return isBadChange(imm[i]);
       }
-      return (op[i] & ~WIDTH_BITS) != OP_PUT || imm[i] != 0;
+      return !isPlainPut(i) || imm[i] != 0;
     }
 
     private static boolean isBadChange(int how) {
@@ -678,13 +689,12 @@ public final class JudgedCode {
     private byte[] found = stack;
     private int foundAt;
 
+    /** There is room: table() has looked. */
     int addTable(Table added) {
-      if (tableCount >= MOST_TABLES) {
-        return REFUSED_ROOM;
-      }
-      tables[tableCount] = added;
-      tableCount++;
-      return tableCount - 1;
+      int t = tableCount;
+      tables[t] = added;
+      tableCount = t + 1;
+      return t;
     }
 
     Table tableNumbered(int t) {
@@ -777,14 +787,10 @@ public final class JudgedCode {
     }
 
     void begin() {
-      for (int r = 0; r < REGISTERS; r++) {
-        registers[r] = 0;
-      }
+      Arrays.fill(registers, 0);
       registers[1] = CONTEXT_AT;
       registers[10] = STACK_END;
-      for (int i = 0; i < STACK_OCTETS; i++) {
-        memory.stack[i] = 0;
-      }
+      Arrays.fill(memory.stack, (byte) 0);
       putCount = 0;
       slot = 0;
       steps = 0;
@@ -817,13 +823,12 @@ public final class JudgedCode {
         case 2:
           return doPut(i, program.imm[i]);
         case 3:
-          boolean plain = (program.op[i] & ~WIDTH_BITS) == OP_PUT;
-          return plain ? doPut(i, registers[program.src[i]]) : doChange(i);
+          return program.isPlainPut(i) ? doPut(i, registers[program.src[i]]) : doChange(i);
         case 4:
         case 7:
           return doArithmetic(i);
         default:
-          return doJump(i);
+          return program.code(i) == CALL ? doCall(i, program.imm[i]) : doJump(i);
       }
     }
 
@@ -856,8 +861,7 @@ public final class JudgedCode {
         return FAULT_ACCESS;
       }
       long number = memory.foundNumber(n);
-      boolean signed = (program.op[i] & ~WIDTH_BITS) == OP_SIGNED_LOAD;
-      registers[program.dst[i]] = signed ? Numbers.withSign(number, 8 * n) : number;
+      registers[program.dst[i]] = program.isSignedLoad(i) ? Numbers.withSign(number, 8 * n) : number;
       return goTo(i + 1);
     }
 
@@ -907,9 +911,6 @@ public final class JudgedCode {
       int code = program.code(i);
       if (code == END) {
         return ENDED;
-      }
-      if (code == CALL) {
-        return doCall(i, program.imm[i]);
       }
       boolean jumps = code == ALWAYS
           || Numbers.holds(code, program.isWide(i), registers[program.dst[i]], x(i));
@@ -1154,21 +1155,21 @@ public final class JudgedCode {
    */
   private static final class Scene {
     private static final int PLACES = REGISTERS + CELLS;
+    private static final int KNOWN_WORDS = STACK_OCTETS / 64;
 
     boolean come;
     final int[] tag = new int[PLACES];
     final long[] low = new long[PLACES];
     final long[] high = new long[PLACES];
-    private final byte[] known = new byte[CELLS];
+    // A bit for each octet, and one for each cell.
+    private final long[] known = new long[KNOWN_WORDS];
     private long held;
 
     void begin() {
-      for (int p = 0; p < PLACES; p++) {
-        write(p, NONE, 0, 0);
-      }
-      for (int c = 0; c < CELLS; c++) {
-        known[c] = 0;
-      }
+      Arrays.fill(tag, NONE);
+      Arrays.fill(low, 0);
+      Arrays.fill(high, 0);
+      Arrays.fill(known, 0);
       held = 0;
       write(1, CONTEXT, 0, 0);
       write(10, STACK, 0, 0);
@@ -1215,17 +1216,12 @@ public final class JudgedCode {
     }
 
     void copyFrom(Scene other) {
-      for (int r = 0; r < REGISTERS; r++) {
-        write(r, other.tag[r], other.low[r], other.high[r]);
-      }
-      for (int c = 0; c < CELLS; c++) {
-        known[c] = other.known[c];
-      }
+      int used = other.held == 0 ? REGISTERS : PLACES;
+      System.arraycopy(other.tag, 0, tag, 0, used);
+      System.arraycopy(other.low, 0, low, 0, used);
+      System.arraycopy(other.high, 0, high, 0, used);
+      System.arraycopy(other.known, 0, known, 0, KNOWN_WORDS);
       held = other.held;
-      for (int c = 0; c < CELLS && held != 0; c++) {
-        int p = REGISTERS + c;
-        write(p, other.tag[p], other.low[p], other.high[p]);
-      }
       come = true;
     }
 
@@ -1233,8 +1229,8 @@ public final class JudgedCode {
       for (int r = 0; r < REGISTERS; r++) {
         joinPlace(r, other);
       }
-      for (int c = 0; c < CELLS; c++) {
-        known[c] &= other.known[c];
+      for (int w = 0; w < KNOWN_WORDS; w++) {
+        known[w] &= other.known[w];
       }
       held &= other.held;
       for (int c = 0; c < CELLS && held != 0; c++) {
@@ -1275,13 +1271,18 @@ public final class JudgedCode {
     void hold(int c, int from) {
       held |= 1L << c;
       move(REGISTERS + c, from);
-      known[c] = (byte) (isNumber(from) ? 255 : 0);
+      knowCell(c, isNumber(from));
+    }
+
+    private void knowCell(int c, boolean all) {
+      long octets = 255L << 8 * (c & 7);
+      known[c >> 3] = all ? known[c >> 3] | octets : known[c >> 3] & ~octets;
     }
 
     /** Octets at .. at + n - 1 (of 512) are put by other ways than a whole register. */
     void putOctets(int at, int n) {
       for (int o = at; o < at + n; o++) {
-        known[o >> 3] |= 1 << (o & 7);
+        known[o >> 6] |= 1L << (o & 63);
         holdNothing(o >> 3);
       }
     }
@@ -1296,7 +1297,7 @@ public final class JudgedCode {
     }
 
     private boolean isKnown(int o) {
-      return (known[o >> 3] >> (o & 7) & 1) != 0;
+      return (known[o >> 6] >>> (o & 63) & 1) != 0;
     }
 
     /** All that is the VALUE or 0 of this tag becomes one of both. */
@@ -1310,7 +1311,7 @@ public final class JudgedCode {
       for (int c = 0; c < CELLS && held != 0; c++) {
         if (holds(c) && tag[REGISTERS + c] == asked) {
           write(REGISTERS + c, newTag, 0, 0);
-          known[c] = (byte) (zero ? 255 : 0);
+          knowCell(c, zero);
         }
       }
     }
@@ -1354,6 +1355,11 @@ public final class JudgedCode {
     private final Scene aside = new Scene();
     private final Span span = new Span();
     int refusedAt = -1;
+    // The ways of the slot that is judged: it goes on with now, and jumps with aside.
+    private boolean goesOn;
+    private long onTo;
+    private boolean jumps;
+    private long jumpTo;
 
     Judge(Program slots, Memory octets) {
       program = slots;
@@ -1382,6 +1388,9 @@ public final class JudgedCode {
       for (int i = 0; i < program.count; i++) {
         Scene scene = sceneAt(i);
         int refusal = scene == null ? 0 : judgeSlot(i, scene);
+        if (refusal == 0 && scene != null) {
+          refusal = goOnBothWays(i);
+        }
         if (refusal != 0) {
           refusedAt = i;
           return refusal;
@@ -1412,6 +1421,9 @@ public final class JudgedCode {
         return BY_BAD;
       }
       now.copyFrom(scene);
+      goesOn = true;
+      onTo = i + 1;
+      jumps = false;
       switch (program.op[i] & 7) {
         case 0:
           return judgePair(i);
@@ -1420,17 +1432,20 @@ public final class JudgedCode {
         case 2:
           return judgePut(i, false);
         case 3:
-          boolean plain = (program.op[i] & ~WIDTH_BITS) == OP_PUT;
-          return plain ? judgePut(i, true) : judgeChange(i);
+          return program.isPlainPut(i) ? judgePut(i, true) : judgeChange(i);
         case 4:
         case 7:
           return judgeArithmetic(i);
         default:
-          return judgeJump(i);
+          return program.code(i) == CALL ? judgeCall(i, program.imm[i]) : judgeJump(i);
       }
     }
 
-    /** From slot i on to another one, with what may be there then. */
+    private int goOnBothWays(int i) {
+      int refusal = goesOn ? goOn(i, onTo, now) : 0;
+      return refusal == 0 && jumps ? goOn(i, jumpTo, aside) : refusal;
+    }
+
     private int goOn(int i, long to, Scene with) {
       if (to <= i || to >= program.count || isSecond[(int) to]) {
         return BY_SLOT;
@@ -1462,7 +1477,8 @@ public final class JudgedCode {
         long number = (long) program.imm[i + 1] << 32 | imm & LOW_HALF;
         now.write(program.dst[i], NUMBER, number, number);
       }
-      return goOn(i, i + 2, now);
+      onTo = i + 2;
+      return 0;
     }
 
     private boolean canBeReached(int r) {
@@ -1520,13 +1536,12 @@ public final class JudgedCode {
         return BY_ACCESS;
       }
       int at = now.kind(s) == STACK ? inStack(s, offset) : -1;
-      boolean signed = (program.op[i] & ~WIDTH_BITS) == OP_SIGNED_LOAD;
       if (at >= 0 && isHeldWhole(at, n)) {
         now.move(d, REGISTERS + (at >> 3));
       } else {
-        now.writeAny(d, signed ? 8 : n);
+        now.writeAny(d, program.isSignedLoad(i) ? 8 : n);
       }
-      return goOn(i, i + 1, now);
+      return 0;
     }
 
     private int judgePut(int i, boolean fromRegister) {
@@ -1550,7 +1565,7 @@ public final class JudgedCode {
       } else if (inStack) {
         now.putOctets(inStack(d, offset), n);
       }
-      return goOn(i, i + 1, now);
+      return 0;
     }
 
     private int judgeChange(int i) {
@@ -1576,7 +1591,7 @@ public final class JudgedCode {
       if ((how & 1) != 0) {
         now.writeAny(compares ? 0 : s, n);
       }
-      return goOn(i, i + 1, now);
+      return 0;
     }
 
     private int judgeArithmetic(int i) {
@@ -1596,7 +1611,7 @@ public final class JudgedCode {
       } else if (!shiftPlace(i, byRegister)) {
         return BY_KIND;
       }
-      return goOn(i, i + 1, now);
+      return 0;
     }
 
     private void makeNumber(int i, boolean byRegister) {
@@ -1648,13 +1663,12 @@ public final class JudgedCode {
     private int judgeJump(int i) {
       int code = program.code(i);
       if (code == END) {
+        goesOn = false;
         return now.isNumber(0) ? 0 : BY_END;
       }
-      if (code == CALL) {
-        return judgeCall(i, program.imm[i]);
-      }
       if (code == ALWAYS) {
-        return goOn(i, (long) i + 1 + program.distance(i), now);
+        onTo = (long) i + 1 + program.distance(i);
+        return 0;
       }
       return judgeBranch(i);
     }
@@ -1670,21 +1684,28 @@ public final class JudgedCode {
       boolean equality = code == EQUAL || code == UNEQUAL;
       boolean byZero = !byRegister && program.imm[i] == 0;
       if (now.kind(d) == VALUE_OR_ZERO && equality && byZero && program.isWide(i)) {
-        return settleBoth(i, now.tag[d]);
+        goBothWays(i);
+        settleBoth(now.tag[d], code == EQUAL);
+        return 0;
       }
       if (!now.isNumber(d) || byRegister && !now.isNumber(s)) {
         return BY_KIND;
       }
+      goBothWays(i);
       if (program.isWide(i) && (equality || comparesUnsigned(code))) {
         if (!byRegister || now.isOne(s)) {
-          return narrowBoth(i, d, code, byRegister ? now.low[s] : program.imm[i]);
-        }
-        if (now.isOne(d)) {
-          return narrowBoth(i, s, changedAbout(code), now.low[d]);
+          narrowBoth(d, code, byRegister ? now.low[s] : program.imm[i]);
+        } else if (now.isOne(d)) {
+          narrowBoth(s, changedAbout(code), now.low[d]);
         }
       }
-      int refusal = goOn(i, i + 1, now);
-      return refusal != 0 ? refusal : goOn(i, i + 1 + program.offset[i], now);
+      return 0;
+    }
+
+    private void goBothWays(int i) {
+      aside.copyFrom(now);
+      jumps = true;
+      jumpTo = (long) i + 1 + program.offset[i];
     }
 
     private static boolean comparesUnsigned(int code) {
@@ -1723,31 +1744,18 @@ public final class JudgedCode {
       }
     }
 
-    private int settleBoth(int i, int tag) {
-      boolean jumpsAtZero = program.code(i) == EQUAL;
-      aside.copyFrom(now);
-      aside.settle(tag, !jumpsAtZero);
-      now.settle(tag, jumpsAtZero);
-      int refusal = goOn(i, i + 1, aside);
-      return refusal != 0 ? refusal : goOn(i, i + 1 + program.offset[i], now);
+    private void settleBoth(int tag, boolean jumpsAtZero) {
+      now.settle(tag, !jumpsAtZero);
+      aside.settle(tag, jumpsAtZero);
     }
 
-    /** Both ways of a jump if register r compares so to k, each with what r can be there. */
-    private int narrowBoth(int i, int r, int code, long k) {
-      aside.copyFrom(now);
+    /** It jumps if register r compares so to k: each way has only what r can be there. */
+    private void narrowBoth(int r, int code, long k) {
       span.first(now.low[r], now.high[r]);
-      if (span.narrow(opposite(code), k)) {
-        aside.write(r, NUMBER, span.low, span.high);
-        int refusal = goOn(i, i + 1, aside);
-        if (refusal != 0) {
-          return refusal;
-        }
-      }
-      if (span.narrow(code, k)) {
-        now.write(r, NUMBER, span.low, span.high);
-        return goOn(i, i + 1 + program.offset[i], now);
-      }
-      return 0;
+      goesOn = span.narrow(opposite(code), k);
+      now.write(r, NUMBER, span.low, span.high);
+      jumps = span.narrow(code, k);
+      aside.write(r, NUMBER, span.low, span.high);
     }
 
     private int judgeCall(int i, int which) {
@@ -1773,7 +1781,7 @@ public final class JudgedCode {
       for (int r = 1; r <= 5; r++) {
         now.write(r, NONE, 0, 0);
       }
-      return goOn(i, i + 1, now);
+      return 0;
     }
 
     /** How many registers, from 1 on, a helper reads. */
