@@ -984,7 +984,8 @@ public final class JudgedCode {
     }
 
     private void becomeAll() {
-      become(0, most);
+      low = 0;
+      high = most;
     }
 
     void turn(int bits, boolean around) {

@@ -115,6 +115,8 @@ public final class JudgeTest {
     judged("CONTEXT + the least", 3, asm().by(Asm.ADD, 1, Integer.MIN_VALUE));
     found("CONTEXT + a range", asm().load(1, 3, 1, 0).with(Asm.ADD, 1, 3), 1, 2, 0, 255);
     found("a range + CONTEXT", asm().load(1, 3, 1, 0).by(Asm.ADD, 3, 2).by(Asm.ADD, 1, 1).with(Asm.ADD, 3, 1), 3, 2, 3, 258);
+    found("CONTEXT + a range + 5", asm().load(1, 3, 1, 0).with(Asm.ADD, 1, 3).by(Asm.ADD, 1, 5), 1, 2, 5, 260);
+    found("CONTEXT + a range - 5", asm().load(1, 3, 1, 0).with(Asm.ADD, 1, 3).by(Asm.SUB, 1, 5), 1, 2, -5, 250);
     found("CONTEXT - a range", asm().load(1, 3, 1, 0).by(Asm.ADD, 3, 2).with(Asm.SUB, 1, 3), 1, 2, -257, -2);
     found("CONTEXT + 0 .. 65535", asm().load(2, 3, 1, 0).with(Asm.ADD, 1, 3), 1, 2, 0, 65535);
     found("CONTEXT + 1 .. 65536", asm().load(2, 3, 1, 0).by(Asm.ADD, 3, 1).with(Asm.ADD, 1, 3), 1, 2, 1, 65536);
@@ -133,6 +135,12 @@ public final class JudgeTest {
     for (int i = 0; i < 16; i++) { up.by(Asm.ADD, 3, 65536); down.by(Asm.ADD, 1, -65536); }
     judged("STACK + 2^20 + 1", 3, up.by(Asm.ADD, 3, 1));
     judged("CONTEXT - 2^20 - 1", 3, down.by(Asm.ADD, 1, -1));
+    down = asm().load(1, 3, 1, 0);
+    for (int i = 0; i < 16; i++) { down.by(Asm.ADD, 1, -65536); }
+    judged("CONTEXT - 2^20 - a range", 3, down.with(Asm.SUB, 1, 3));
+    up = asm().load(1, 3, 1, 0);
+    for (int i = 0; i < 16; i++) { up.by(Asm.ADD, 1, 65536); }
+    judged("CONTEXT + 2^20 + a range", 3, up.with(Asm.ADD, 1, 3));
   }
 
   /** 3 is l .. h, 4 is m .. n: small ranges of one octet, moved on. */
@@ -148,6 +156,7 @@ public final class JudgeTest {
     made("+ -1", asm().load(1, 3, 1, 0).by(Asm.ADD, 3, -1), 0, -1);
     made("+ to the end", asm().load(1, 3, 1, 0).by(Asm.ADD, 3, -256), -256, -1);
     made("- ", ranges(1, 300, 0).with(Asm.SUB, 3, 4), 45, 555);
+    made("- more", ranges(1, 300, 7).with(Asm.SUB, 3, 4), 38, 548);
     made("- just", ranges(1, 255, 0).with(Asm.SUB, 3, 4), 0, 510);
     made("- below", ranges(1, 254, 0).with(Asm.SUB, 3, 4), 0, -1);
     made("*", ranges(1, 2, 3).with(Asm.MUL, 3, 4), 6, 257 * 258);
@@ -206,6 +215,7 @@ public final class JudgeTest {
     made("4 / signed", asm().load(1, 3, 1, 0).feed(52, 3, 0, 1, 10), 0, HALF);
     // One number is cut to its lowest bits; a range above is all.
     made("4 + with one number above", asm().load(1, 3, 1, 0).wide(4, 0x500000001L).halfWith(Asm.ADD, 3, 4), 1, 256);
+    made("4 one number above + a range", asm().wide(3, 0x500000001L).load(1, 4, 1, 0).halfWith(Asm.ADD, 3, 4), 1, 256);
     made("4 + of a range above", asm().load(1, 3, 1, 0).wide(4, 1L << 32).with(Asm.ADD, 3, 4).halfBy(Asm.ADD, 3, 0), 0, HALF);
     made("4 / by one number whose lower half is 0", asm().load(1, 3, 1, 0).wide(4, 1L << 32).halfWith(Asm.DIV, 3, 4), 0, 255);
   }
@@ -221,6 +231,7 @@ public final class JudgeTest {
     made("4 left over", asm().load(1, 3, 1, 0).halfBy(Asm.LEFT, 3, 25), 0, HALF);
     made("4 left by 33", asm().load(1, 3, 1, 0).halfBy(Asm.LEFT, 3, 33), 0, 510);
     made("right", ranges(1, 9, 0).by(Asm.RIGHT, 3, 3), 1, 33);
+    made("right of what is above 2^63", asm().load(1, 3, 1, 0).by(Asm.ADD, 3, -256).by(Asm.RIGHT, 3, 60), 15, 15);
     made("right by a range", ranges(1, 9, 0).with(Asm.RIGHT, 3, 4), 0, 264);
     made("right of all", asm().load(8, 3, 1, 0).by(Asm.RIGHT, 3, 1), 0, Long.MAX_VALUE);
     made("4 right by 35", ranges(1, 9, 0).halfBy(Asm.RIGHT, 3, 35), 1, 33);
@@ -301,6 +312,11 @@ public final class JudgeTest {
 
   /** 3 becomes one thing on one way, and another on the other; what it is where both meet. */
   private static void joined(String what, Asm one, Asm other, long... dues) {
+    joinedSo(what, one, other, dues);
+    joinedSo(what + ", the other way first", other, one, dues);
+  }
+
+  private static void joinedSo(String what, Asm one, Asm other, long... dues) {
     Asm a = asm().load(1, 6, 1, 0).jumpHalfBy(Asm.EQ, 6, 1, one.here() + 1);
     append(a, one);
     a.go(other.here());
@@ -341,6 +357,8 @@ public final class JudgeTest {
     joined("two NUMBERS", piece(set(3, 5)), piece(set(3, 2)), 1, 2, 5, 0, 0);
     joined("-1 and 1, without sign", piece(set(3, -1)), piece(set(3, 1)), 1, 1, -1, 0, 0);
     joined("two CONTEXTS", piece(copy(3, 1), add(3, -4)), piece(copy(3, 1), add(3, 9)), 2, -4, 9, 0, 0);
+    int[] more = {15, 3, 6, 0, 0};
+    joined("two CONTEXTS with ranges", piece(copy(3, 1), more, add(3, 5)), piece(copy(3, 1), more, add(3, 9)), 2, 5, 264, 0, 0);
     joined("two STACKS alike", piece(copy(3, 10), add(3, -4)), piece(copy(3, 10), add(3, -4)), 3, -4, 0, 0, 0);
     joined("two STACKS", piece(copy(3, 10), add(3, -4)), piece(copy(3, 10), add(3, -8)), 0, 0, 0, 0, 0);
     joined("CONTEXT and NUMBER", piece(copy(3, 1)), piece(set(3, 0)), 0, 0, 0, 0, 0);
@@ -363,6 +381,11 @@ public final class JudgeTest {
   }
 
   private static void joinedCell(String what, Asm one, Asm other, int dueCell) {
+    joinedCellSo(what, one, other, dueCell);
+    joinedCellSo(what + ", the other way first", other, one, dueCell);
+  }
+
+  private static void joinedCellSo(String what, Asm one, Asm other, int dueCell) {
     Asm a = asm().load(1, 6, 1, 0).set(4, 1).jumpHalfBy(Asm.EQ, 6, 1, one.here() + 1);
     append(a, one);
     a.go(other.here());
@@ -384,9 +407,18 @@ public final class JudgeTest {
     joinedCell("a cell with NUMBER, and NONE", piece(put(-8, 4)), piece(), 0);
     joinedCell("known octets on both ways", piece(putNumber(-8, 1)), piece(putNumber(-8, 1)), 1);
     joinedCell("known octets on one way", piece(putNumber(-8, 1)), piece(), 0);
+    Asm lowest = asm().load(1, 6, 1, 0).putNumber(8, 10, -512, 0).putNumber(8, 10, -504, 0);
+    lowest.jumpHalfBy(Asm.EQ, 6, 1, 1).put(8, 10, -512, 1);
+    int there = lowest.here();
+    lowest.set(0, 0).end();
+    due.is("judge()", lowest.x.judge(), 0);
+    due.is("the lowest octet", lowest.x.cell(there, -512), 0);
+    due.is("the lowest but 8", lowest.x.cell(there, -504), 1);
     // What a joined cell holds is joined.
     Asm a = asm().load(1, 6, 1, 0).set(4, 1).set(5, 9).jumpHalfBy(Asm.EQ, 6, 1, 2).put(8, 10, -8, 4).go(1).put(8, 10, -8, 5).load(8, 3, 10, -8);
     found("a joined cell", a, 3, 1, 1, 9);
+    a = asm().load(1, 6, 1, 0).set(4, 1).set(5, 9).jumpHalfBy(Asm.EQ, 6, 1, 2).put(8, 10, -512, 4).go(1).put(8, 10, -512, 5).load(8, 3, 10, -512);
+    found("the lowest cell, joined", a, 3, 1, 1, 9);
   }
 
   /** Register 3 is 10 .. 265; what it is on the way that goes on, and on that of the jump (kind 0: not gone). */
@@ -439,7 +471,7 @@ public final class JudgeTest {
   }
 
   private static Asm called() {
-    return asm().copy(2, 1).table(1, 1).call(1).copy(6, 0).put(8, 10, -8, 0).copy(7, 6);
+    return asm().copy(2, 1).table(1, 1).call(1).copy(6, 0).put(8, 10, -8, 0).put(8, 10, -512, 0).copy(7, 6);
   }
 
   private static void settling() {
@@ -460,6 +492,8 @@ public final class JudgeTest {
         due.is("the VALUE's TABLE", a.x.may(value, r, 3), 1);
         due.is("no call more", a.x.may(value, r, 4), 0);
       }
+      due.is("the lowest cell with 0", a.x.cell(zero, -512), 2);
+      due.is("the lowest cell with the VALUE", a.x.cell(value, -505), 3);
       due.is("the cell before", a.x.cell(at - 1, -8), 3);
       due.is("the cell with 0", a.x.cell(zero, -8), 2);
       due.is("the cell with the VALUE", a.x.cell(value, -8), 3);
@@ -471,6 +505,12 @@ public final class JudgeTest {
     judged("6 as X", 3, called().set(4, 0).jumpWith(Asm.EQ, 4, 0, 0));
     judged("6 + 1", 3, called().by(Asm.ADD, 0, 1));
     judged("a load at 6", 3, called().load(1, 3, 0, 0));
+    found("a part of a cell that is settled as 0", called().jumpBy(Asm.NE, 0, 0, 1).load(4, 3, 10, -8), 10, 3, 0, 0);
+    judged("a part of a cell that is settled as a VALUE", 4, called().jumpBy(Asm.EQ, 0, 0, 1).load(4, 3, 10, -8));
+    Asm lowest = asm().copy(2, 1).table(1, 1).call(1).put(8, 10, -512, 0).jumpBy(Asm.NE, 0, 0, 1).load(4, 3, 10, -512);
+    found("a part of the lowest cell that is settled as 0", lowest, 10, 3, 0, 0);
+    Asm other = called().put(8, 10, -16, 10).jumpBy(Asm.EQ, 0, 0, 0).load(8, 3, 10, -16);
+    found("a cell that holds another stays", other, 3, 3, 0, 0);
     // Another call's 6 is not settled with it.
     Asm a = called().copy(8, 6).set(3, 0).put(8, 10, -16, 3).copy(2, 10).by(Asm.ADD, 2, -16).table(1, 1).call(1).jumpBy(Asm.EQ, 8, 0, 0);
     int at = a.here();
@@ -545,6 +585,8 @@ public final class JudgeTest {
     judged("a pointer too low", 4, asm().put(8, 10, -520, 1));
     judged("a pointer too high", 4, asm().put(8, 10, 0, 1));
     found("a NUMBER that 8 does not divide", asm().set(3, 5).put(8, 10, -12, 3).load(8, 4, 10, -12), 4, 1, 0, -1);
+    found("a pointer at a sum that 8 divides", asm().copy(7, 10).by(Asm.ADD, 7, -10).put(8, 7, 2, 1).load(8, 4, 10, -8), 4, 2, 0, 0);
+    judged("a pointer at a sum that 8 does not divide", 3, asm().copy(7, 10).by(Asm.ADD, 7, -10).put(8, 7, -2, 1));
     found("a NUMBER of 4 octets", asm().set(3, 5).put(4, 10, -8, 3).load(4, 4, 10, -8), 4, 1, 0, HALF);
     found("put over", asm().set(3, 5).put(8, 10, -8, 3).putNumber(1, 10, -1, 0).load(8, 4, 10, -8), 4, 1, 0, -1);
     judged("put over a pointer", 4, asm().put(8, 10, -8, 1).putNumber(1, 10, -1, 0).load(8, 4, 10, -8));

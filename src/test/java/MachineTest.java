@@ -94,6 +94,13 @@ public final class MachineTest {
     due.is("/ the least by -1", made(63, 1, least, -1), least);
     due.is("rest of the least by -1", made(159, 1, least, -1), 0);
     due.is("/ signed imm", madeBy(55, 1, -100, -7), 14);
+    long[] some = {1, 2, 3, 5, 7, 255, 1L << 32, Long.MAX_VALUE, Long.MIN_VALUE, Long.MIN_VALUE + 1, -3, -2, -1};
+    for (long d : some) {
+      for (long x : some) {
+        due.is(d + " / " + x, made(63, 0, d, x), Long.divideUnsigned(d, x));
+        due.is(d + " rest " + x, made(159, 0, d, x), Long.remainderUnsigned(d, x));
+      }
+    }
     long up = 0x1234567800000000L;
     due.is("4 /", made(60, 0, up | 0xFFFFFFFFL, up | 2), 0x7FFFFFFF);
     due.is("4 / by 0", made(60, 0, up | 5, up), 0);
@@ -272,6 +279,7 @@ public final class MachineTest {
     a.x.table(1, 3, 8, 2);
     due.is("ROW, 1", table(a, 1, 0, 2, 0, 0), PlainModel.valueAt(0, 2));
     due.is("ROW, 1, the key is 4 octets", table(a, 1, 0, 0x500000001L, 0, 0), PlainModel.valueAt(0, 1));
+    due.is("ROW, 1, key 0", table(a, 1, 0, 0, 0, 0), PlainModel.valueAt(0, 0));
     due.is("ROW, 1, no such", table(a, 1, 0, 3, 0, 0), 0);
     due.is("ROW, 1, no such by far", table(a, 1, 0, 0xFFFFFFFFL, 0, 0), 0);
     due.is("ROW, 2", table(a, 2, 0, 1, 77, 0), 0);
