@@ -311,35 +311,28 @@ public final class JudgeTest {
   }
 
   /** 3 becomes one thing on one way, and another on the other; what it is where both meet. */
-  private static void joined(String what, Asm one, Asm other, long... dues) {
-    joinedSo(what, one, other, dues);
-    joinedSo(what + ", the other way first", other, one, dues);
+  private static void joined(String what, int[][] one, int[][] other, long... dues) {
+    for (Asm a : new Asm[] {meet(what, one, other), meet(what, other, one)}) {
+      for (int k = 0; k < dues.length; k++) { due.is(what + ", " + k, a.x.may(a.here() - 2, 3, k), dues[k]); }
+    }
   }
 
-  private static void joinedSo(String what, Asm one, Asm other, long... dues) {
-    Asm a = asm().load(1, 6, 1, 0).jumpHalfBy(Asm.EQ, 6, 1, one.here() + 1);
+  /** Two ways that meet at the last slot but one, judged; 6 is an octet, 4 is 1 before them. */
+  private static Asm meet(String what, int[][] one, int[][] other) {
+    Asm a = asm().load(1, 6, 1, 0).set(4, 1).jumpHalfBy(Asm.EQ, 6, 1, one.length + 1);
     append(a, one);
-    a.go(other.here());
+    a.go(other.length);
     append(a, other);
-    int at = a.here();
     a.set(0, 0).end();
     due.is("judge() of " + what, a.x.judge(), 0);
-    for (int k = 0; k < dues.length; k++) { due.is(what + ", " + k, a.x.may(at, 3, k), dues[k]); }
-  }
-
-  private static void append(Asm a, Asm b) {
-    for (int[] s : SLOTS.getOrDefault(b, java.util.List.of())) { a.feed(s[0], s[1], s[2], s[3], s[4]); }
-  }
-
-  private static final java.util.Map<Asm, java.util.List<int[]>> SLOTS = new java.util.HashMap<>();
-
-  /** A few slots, kept so that they can be fed again; it counts them in an object of its own. */
-  private static Asm piece(int[]... slots) {
-    Asm a = new Asm();
-    for (int[] s : slots) { a.feed(s[0], s[1], s[2], s[3], s[4]); }
-    SLOTS.put(a, java.util.List.of(slots));
     return a;
   }
+
+  private static void append(Asm a, int[][] slots) {
+    for (int[] s : slots) { a.feed(s[0], s[1], s[2], s[3], s[4]); }
+  }
+
+  private static int[][] piece(int[]... slots) { return slots; }
 
   private static int[] set(int d, int imm) { return new int[] {183, d, 0, 0, imm}; }
 
@@ -371,30 +364,21 @@ public final class JudgeTest {
     int[] skip = {85, 0, 0, 2, 0};
     int[] zero = {183, 0, 0, 0, 0};
     int[] end = {149, 0, 0, 0, 0};
-    Asm v0 = piece(copy(2, 1), table0, NOTHING, call, skip, zero, end, copy(3, 0));
-    Asm v0more = piece(copy(2, 1), table0, NOTHING, call, skip, zero, end, copy(3, 0), add(3, 7));
-    Asm v1 = piece(copy(2, 1), table1, NOTHING, call, skip, zero, end, copy(3, 0));
+    int[][] v0 = piece(copy(2, 1), table0, NOTHING, call, skip, zero, end, copy(3, 0));
+    int[][] v0more = piece(copy(2, 1), table0, NOTHING, call, skip, zero, end, copy(3, 0), add(3, 7));
+    int[][] v1 = piece(copy(2, 1), table1, NOTHING, call, skip, zero, end, copy(3, 0));
     joined("two VALUES of one TABLE", v0, v0more, 5, 0, 7, 0, 0);
     joined("VALUES of two TABLES", v0, v1, 0, 0, 0, 0, 0);
-    Asm six = piece(copy(2, 1), table1, NOTHING, call, copy(3, 0));
+    int[][] six = piece(copy(2, 1), table1, NOTHING, call, copy(3, 0));
     joined("two of KIND 6 by two calls", six, six, 0, 0, 0, 0, 0);
   }
 
-  private static void joinedCell(String what, Asm one, Asm other, int dueCell) {
-    joinedCellSo(what, one, other, dueCell);
-    joinedCellSo(what + ", the other way first", other, one, dueCell);
-  }
-
-  private static void joinedCellSo(String what, Asm one, Asm other, int dueCell) {
-    Asm a = asm().load(1, 6, 1, 0).set(4, 1).jumpHalfBy(Asm.EQ, 6, 1, one.here() + 1);
-    append(a, one);
-    a.go(other.here());
-    append(a, other);
-    int at = a.here();
-    a.set(0, 0).end();
-    due.is("judge() of " + what, a.x.judge(), 0);
-    for (int o = -8; o < 0; o++) { due.is(what + ", " + o, a.x.cell(at, o), dueCell); }
-    due.is(what + ", beside", a.x.cell(at, -9), 0);
+  private static void joinedCell(String what, int[][] one, int[][] other, int dueCell) {
+    for (Asm a : new Asm[] {meet(what, one, other), meet(what, other, one)}) {
+      int at = a.here() - 2;
+      for (int o = -8; o < 0; o++) { due.is(what + ", " + o, a.x.cell(at, o), dueCell); }
+      due.is(what + ", beside", a.x.cell(at, -9), 0);
+    }
   }
 
   private static void joinedCells() {
