@@ -844,11 +844,11 @@ public final class JudgedCode {
     private int doPair(int i) {
       int imm = program.imm[i];
       boolean isTable = program.src[i] == 1;
-      if (isTable && memory.tableNumbered(imm) == null) {
-        return FAULT_ACCESS;
-      }
       if (!program.has(i + 1)) {
         return FAULT_SLOT;
+      }
+      if (isTable && memory.tableNumbered(imm) == null) {
+        return FAULT_ACCESS;
       }
       long number = (long) program.imm[i + 1] << 32 | imm & LOW_HALF;
       registers[program.dst[i]] = isTable ? TABLES_AT + imm : number;
@@ -1443,15 +1443,25 @@ public final class JudgedCode {
     }
 
     private int goOnBothWays(int i) {
-      int refusal = goesOn ? goOn(i, onTo, now) : 0;
-      return refusal == 0 && jumps ? goOn(i, jumpTo, aside) : refusal;
-    }
-
-    private int goOn(int i, long to, Scene with) {
-      if (to <= i || to >= program.count || isSecond[(int) to]) {
+      // Both are looked at before either is gone: a refused slot is gone on from by none of its ways.
+      if (goesOn && !canGoOn(i, onTo) || jumps && !canGoOn(i, jumpTo)) {
         return BY_SLOT;
       }
-      int next = (int) to;
+      if (goesOn) {
+        comeTo((int) onTo, now);
+      }
+      if (jumps) {
+        comeTo((int) jumpTo, aside);
+      }
+      return 0;
+    }
+
+    private boolean canGoOn(int i, long to) {
+      return to > i && to < program.count && !isSecond[(int) to];
+    }
+
+    /** The slot is there: canGoOn() has looked. */
+    private void comeTo(int next, Scene with) {
       if (before[next] == null) {
         before[next] = new Scene();
       }
@@ -1460,7 +1470,6 @@ public final class JudgedCode {
       } else {
         before[next].copyFrom(with);
       }
-      return 0;
     }
 
     private int judgePair(int i) {

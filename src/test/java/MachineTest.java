@@ -453,8 +453,27 @@ public final class MachineTest {
     due.is("where", a.x.told(1), 1);
     due.is("steps", a.x.told(2), 1);
     due.is("register 3", a.x.register(3), 0);
+    halfAPair();
     a = new Asm().go(1).wide(3, 1).end();
     due.is("a jump to a second slot", a.go(), 3);
     due.is("where", a.x.told(1), 2);
+  }
+
+  /** The second slot of 24 lacks, whatever TABLE the first one asks for. */
+  private static void halfAPair() {
+    for (int t : new int[] {0, 1, 2, 3, 4, -1, Integer.MAX_VALUE, Integer.MIN_VALUE}) {
+      Asm a = new Asm();
+      a.x.table(0, 4, 1, 1);
+      a.feed(24, 3, 1, 0, t);
+      due.is("24 of TABLE " + t + " without its second", a.go(), 5);
+      due.is("where", a.x.told(1), 0);
+      due.is("steps", a.x.told(2), 0);
+      due.is("register 3", a.x.register(3), 0);
+      a.feed(0, 0, 0, 0, 0);
+      due.is("24 of TABLE " + t + " that falls off", a.go(), t == 0 ? 5 : 4);
+      due.is("steps", a.x.told(2), t == 0 ? 1 : 0);
+    }
+    Asm a = new Asm().feed(24, 10, 1, 0, 0);
+    due.is("BAD 24 without its second", a.go(), 3);
   }
 }

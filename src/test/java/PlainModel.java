@@ -65,6 +65,7 @@ final class PlainModel {
   private final List<Long> puts = new ArrayList<>();
   private Map<Integer, Before> found = new HashMap<>();
   private int refusedAt = -1;
+  private final List<Way> ways = new ArrayList<>();
 
   PlainModel() {
     for (int i = 0; i < 512; i++) { octets.put((1L << 33) - 512 + i, 0); }
@@ -367,8 +368,8 @@ final class PlainModel {
     int n = s.width();
     switch (s.sort()) {
       case 0:
-        if (s.src == 1 && (s.imm < 0 || s.imm >= tables.size())) { return 4; }
         if (at + 1 >= slots.size()) { return 5; }
+        if (s.src == 1 && (s.imm < 0 || s.imm >= tables.size())) { return 4; }
         BigInteger both = unsigned(slots.get(at + 1).imm).shiftLeft(32).add(unsigned(s.imm).mod(TWO32));
         reg[s.dst] = s.src == 1 ? (1L << 34) + s.imm : both.longValue();
         at += 2;
@@ -497,7 +498,10 @@ final class PlainModel {
     for (int i = 0; i < slots.size(); i++) {
       if (!found.containsKey(i)) { continue; }
       try {
+        ways.clear();
         judgeSlot(i, found.get(i).copy());
+        for (Way w : ways) { need(w.to > i && w.to < slots.size() && !isSecond((int) w.to), 6); }
+        for (Way w : ways) { found.merge((int) w.to, w.with, PlainModel::joined); }
       } catch (Refusal r) {
         refusedAt = i;
         return r.by;
@@ -512,10 +516,9 @@ final class PlainModel {
     return j > i;
   }
 
-  private void go(int from, long to, Before with) {
-    need(to > from && to < slots.size() && !isSecond((int) to), 6);
-    found.merge((int) to, with.copy(), PlainModel::joined);
-  }
+  private record Way(long to, Before with) {}
+
+  private void go(long to, Before with) { ways.add(new Way(to, with.copy())); }
 
   static Maybe joined(Maybe a, Maybe b) {
     boolean ranges = a.kind == b.kind && (a.kind == 1 || a.kind == 2 || a.kind == 5 && a.t == b.t);
@@ -553,7 +556,7 @@ final class PlainModel {
         need(i + 1 < slots.size(), 6);
         BigInteger both = unsigned((long) slots.get(i + 1).imm << 32 | s.imm & 0xFFFFFFFFL);
         b.r[s.dst] = s.src == 1 ? new Maybe(4, ZERO, ZERO, s.imm, 0) : number(both);
-        go(i, i + 2, b);
+        go(i + 2, b);
         return;
       case 1:
         need(b.r[s.src].kind != 0, 2);
@@ -569,7 +572,7 @@ final class PlainModel {
         judgeJump(i, s, b);
         return;
     }
-    go(i, i + 1, b);
+    go(i + 1, b);
   }
 
   private boolean inside(Maybe m, int offset, int n, boolean written) {
@@ -727,10 +730,10 @@ final class PlainModel {
         return;
       case 8:
         judgeCall(i, s.imm, b);
-        go(i, i + 1, b);
+        go(i + 1, b);
         return;
       case 0:
-        go(i, (long) i + 1 + (s.sort() == 5 ? s.offset : s.imm), b);
+        go((long) i + 1 + (s.sort() == 5 ? s.offset : s.imm), b);
         return;
       default:
     }
@@ -744,8 +747,8 @@ final class PlainModel {
     if (d.kind == 6 && !s.bit8() && s.imm == 0 && s.sort() == 5 && equal) {
       settle(on, d, s.code() == 5);
       settle(jump, d, s.code() == 1);
-      go(i, i + 1, on);
-      go(i, i + 1 + s.offset, jump);
+      go(i + 1, on);
+      go(i + 1 + s.offset, jump);
       return;
     }
     need(d.number() && x.number(), 3);
@@ -763,8 +766,8 @@ final class PlainModel {
       jump.r[r] = yes;
       on.r[r] = no;
     }
-    if (goesOn) { go(i, i + 1, on); }
-    if (jumps) { go(i, i + 1 + s.offset, jump); }
+    if (goesOn) { go(i + 1, on); }
+    if (jumps) { go(i + 1 + s.offset, jump); }
   }
 
   /** What the range can be where the comparison with k comes out so; null: nothing. */

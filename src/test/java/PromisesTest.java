@@ -212,6 +212,7 @@ public final class PromisesTest {
     due.is("may(0, 0, -1)", a.x.may(0, 0, -1), -2);
     due.is("may(0, 0, 5)", a.x.may(0, 0, 5), -2);
     mayStaysTillTheNextJudge();
+    notGoneOnFromTheRefused();
   }
 
   private static void found(Asm a, int i, int r, long... dues) {
@@ -242,6 +243,39 @@ public final class PromisesTest {
     a.x.judge();
     a.set(0, 0);
     due.is("may() behind judge() without slots", a.x.may(0, 1, 0), 0);
+  }
+
+  /** A slot at which the program is refused is gone on from by none of its ways. */
+  private static void notGoneOnFromTheRefused() {
+    int[][] branches = {{Asm.SGT, 1}, {Asm.EQ, 1}, {Asm.LT, 1}, {Asm.SGT, -2}, {Asm.EQ, -1}, {Asm.LT, -32768}};
+    for (int[] b : branches) {
+      Asm a = new Asm();
+      a.x.context(1);
+      a.load(1, 2, 1, 0).putNumber(1, 10, -1, 0).jumpBy(b[0], 2, 7, b[1]).end();
+      due.is("a jump that is not there", a.x.judge(), 6);
+      due.is("place()", a.x.place(), 2);
+      due.is("the refused slot", a.x.may(2, 2, 2), 255);
+      due.is("a cell of the refused slot", a.x.cell(2, -1), 1);
+      found(a, 3, 1, 0, 0, 0, 0, 0);
+      found(a, 3, 2, 0, 0, 0, 0, 0);
+      due.is("a cell behind", a.x.cell(3, -1), 0);
+    }
+    // Slot 5 was come to from 2 with 7 in 3; the refused slot 4 would have joined 8 to it.
+    Asm a = new Asm();
+    a.x.context(1);
+    a.load(1, 2, 1, 0).set(3, 7).jumpBy(Asm.SGT, 2, 1, 2).set(3, 8).jumpBy(Asm.SGT, 2, 1, 9).end();
+    due.is("a jump that is not there", a.x.judge(), 6);
+    due.is("place()", a.x.place(), 4);
+    found(a, 5, 3, 1, 7, 7, 0, 0);
+    // Neither way of a VALUE or 0 is gone.
+    a = new Asm();
+    a.table(1, 0);
+    a.x.table(0, 4, 1, 1);
+    a.putNumber(4, 10, -4, 0).copy(2, 10).by(Asm.ADD, 2, -4).call(1).jumpBy(Asm.EQ, 0, 0, 9).end();
+    due.is("a jump of a VALUE or 0", a.x.judge(), 6);
+    due.is("place()", a.x.place(), 6);
+    found(a, 6, 0, 6, 0, 0, 0, 5);
+    found(a, 7, 0, 0, 0, 0, 0, 0);
   }
 
   private static void cell() {
