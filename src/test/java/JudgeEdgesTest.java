@@ -226,7 +226,10 @@ public final class JudgeEdgesTest {
     return p >= KNOWN && p <= NINE && q >= KNOWN && q <= NINE ? 1 : 0;
   }
 
-  /** "Cells that HOLD: both joined, if both do (else, or if NONE comes of it: they hold nothing; octets of what was NUMBER are known then, others NONE)" */
+  /**
+   * "Cells that HOLD: both joined, if both do (else, or if NONE comes of it: they hold nothing; octets of what was NUMBER
+   * are known then, others NONE)"
+   */
   private static void joinedCells() {
     for (int at : new int[] {-512, -256, -8}) {
       for (int p = NONE; p <= A_SIX; p++) {
@@ -390,7 +393,10 @@ public final class JudgeEdgesTest {
     due.is(what + ": place()", a.x.place(), good ? -1 : 2);
   }
 
-  /** "or the second one of 24 (from 0 on each slot with the OP 24 that is no second one has the next as its second one); of 24 that there is none" */
+  /**
+   * "or the second one of 24 (from 0 on each slot with the OP 24 that is no second one has the next as its second one);
+   * of 24 that there is none"
+   */
   private static void secondSlots() {
     // Slots 1 .. 5 have the OP 24: 2, 4 and 6 are second ones, whatever they are.
     for (int to = 1; to <= 7; to++) {
@@ -716,7 +722,10 @@ public final class JudgeEdgesTest {
     return true;
   }
 
-  /** "of the STACK: 8 that HOLD a register: it, if n is 8 and at their address; else if all known, and none of them HELD as other than a NUMBER: NUMBER; else 4" */
+  /**
+   * "of the STACK: 8 that HOLD a register: it, if n is 8 and at their address; else if all known, and none of them HELD as
+   * other than a NUMBER: NUMBER; else 4"
+   */
   private static void reads() {
     for (int first : STATES) {
       for (int second : STATES) {

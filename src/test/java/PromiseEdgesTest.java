@@ -82,7 +82,8 @@ public final class PromiseEdgesTest {
 
   /** 2: "regs: DST in its lowest four bits, SRC in the next. -2 op, or regs, is not 0 .. 255, offset not -32768 .. 32767" */
   private static void feedTakes() {
-    int[][] good = {{0, 0, 0, 0}, {255, 0, 0, 0}, {0, 255, 0, 0}, {0, 0, -32768, 0}, {0, 0, 32767, 0}, {0, 0, 0, MIN}, {0, 0, 0, MAX}, {255, 255, -32768, -1}};
+    int[][] good = {{0, 0, 0, 0}, {255, 0, 0, 0}, {0, 255, 0, 0}, {0, 0, -32768, 0}, {0, 0, 32767, 0}, {0, 0, 0, MIN}, {0, 0, 0, MAX},
+      {255, 255, -32768, -1}};
     for (int[] g : good) { due.is("feed" + java.util.Arrays.toString(g), new JudgedCode().feed(g[0], g[1], g[2], g[3]), 0); }
     int[][] wrong = {{-1, 0, 0}, {256, 0, 0}, {MIN, 0, 0}, {MAX, 0, 0}, {0, -1, 0}, {0, 256, 0}, {0, MIN, 0}, {0, MAX, 0}, {0, 0, -32769},
       {0, 0, 32768}, {0, 0, MIN}, {0, 0, MAX}, {0, 0, 65535}};
@@ -441,7 +442,10 @@ public final class PromiseEdgesTest {
     due.is("behind judge() without slots", a.x.may(0, 1, 0), 0);
   }
 
-  /** 12: "What octet a (-512 .. -1, from 2^33 on) of the STACK was found to be BEFORE slot i: 0 NONE, 1 known, 2 of a cell that HOLDS a NUMBER, 3 another." */
+  /**
+   * 12: "What octet a (-512 .. -1, from 2^33 on) of the STACK was found to be BEFORE slot i: 0 NONE, 1 known, 2 of a cell that
+   * HOLDS a NUMBER, 3 another."
+   */
   private static void cellEdges() {
     Asm a = new Asm().set(3, 1);
     due.is("before judge()", a.x.cell(0, -1), 0);

@@ -58,7 +58,7 @@ public final class RefusalsTest {
     a.x.tick(1L << 62);
     for (int t = 0; t < 4; t++) { a.x.table(t % 2, 4, 2, 2); }
     a.set(3, 1);
-    while (a.here() < 199) { a.by(Asm.ADD, 3, 1); }
+    for (int i = 1; i < 199; i++) { a.by(Asm.ADD, 3, 1); }
     a.end();
     a.x.judge();
     return a.x;

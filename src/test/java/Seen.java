@@ -38,6 +38,8 @@ final class Seen {
 
   private static List<Named> looks(JudgedCode x, boolean status) {
     List<Named> looks = new ArrayList<>();
+    int tables = x.told(4);
+    int slots = x.told(3);
     for (int w = status ? 0 : 1; w <= 5; w++) { int what = w; add(looks, "told " + w, y -> y.told(what)); }
     for (int r = 0; r <= 10; r++) { int i = r; add(looks, "register " + r, y -> y.register(i)); }
     for (int i = 0; i < 32; i++) { int at = i; add(looks, "putAt " + i, y -> y.putAt(at)); }
@@ -46,12 +48,12 @@ final class Seen {
     add(looks, "tick 0", y -> y.tick(0));
     for (int i = 0; i <= 256; i++) { octet(looks, (1L << 32) + i); }
     for (int i = 0; i < 512; i++) { octet(looks, (1L << 33) - 512 + i); }
-    for (int t = 0; t < x.told(4); t++) {
+    for (int t = 0; t < tables; t++) {
       for (int e = 0; e <= 32; e++) {
         for (int i = 0; i <= 32; i++) { octet(looks, PlainModel.valueAt(t, e) + i); }
       }
     }
-    for (int s = 0; s < x.told(3); s++) { findings(looks, s); }
+    for (int s = 0; s < slots; s++) { findings(looks, s); }
     return looks;
   }
 
