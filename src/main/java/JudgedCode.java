@@ -922,7 +922,8 @@ public final class JudgedCode {
         return comeBack(i, memory.clock);
       }
       if (which == PUT) {
-        puts[putCount % KEPT_PUTS] = registers[1];
+        // The count could wrap around long after the 512th call: floorMod() is never below 0.
+        puts[Math.floorMod(putCount, KEPT_PUTS)] = registers[1];
         putCount++;
         return comeBack(i, 0);
       }

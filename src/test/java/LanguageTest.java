@@ -18,7 +18,7 @@ public final class LanguageTest {
       "int context(int)", "int poke(int, int)", "long tick(long)", "int judge()", "int place()", "long may(int, int, int)",
       "int cell(int, int)", "int start()", "int step()", "int run(int)", "int told(int)", "long register(int)", "int octet(long)",
       "long putAt(int)", "int keys(int)");
-  private static final Set<String> LIBRARY = Set.of("Math.min", "Math.max", "Math.abs", "Arrays.fill", "System.arraycopy");
+  private static final Set<String> LIBRARY = Set.of("Math.min", "Math.max", "Math.abs", "Math.floorMod", "Arrays.fill", "System.arraycopy");
 
   private static final Due due = new Due();
 

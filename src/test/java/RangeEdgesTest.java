@@ -224,9 +224,11 @@ public final class RangeEdgesTest {
       long half = 1L << (w - 1);
       made("7 X of " + w + " bits, just", 191, w, 7, 7, 3, half - 1, 3, half - 1);
       made("7 X of " + w + " bits, over", 191, w, 7, 7, 3, half, 0, W);
+      made("7 X of " + w + " bits, one number, DST a range", 191, w, 5, 9, half, half, -half, -half);
       if (w < 32) {
         made("4 X of " + w + " bits, just", 188, w, 7, 7, 3, half - 1, 3, half - 1);
         made("4 X of " + w + " bits, over", 188, w, 7, 7, 3, half, 0, HALF);
+        made("4 X of " + w + " bits, one number, DST a range", 188, w, 5, 9, half, half, -half & HALF, -half & HALF);
         made("4 X of " + w + " bits, of what is CUT", 188, w, 7, 7, 3, 1L << 32, 0, HALF);
       }
     }
